@@ -1,0 +1,52 @@
+/** Counts what is not as it should be, and tells it. */
+final class Check {
+    /** A call of the face that answers a number. */
+    interface Call {
+        int answer();
+    }
+
+    private static int checks = 0;
+    private static int wrong = 0;
+
+    private Check() {
+    }
+
+    static void that(String what, boolean holds) {
+        checks++;
+        if (!holds) {
+            wrong++;
+            System.out.println("not as due: " + what);
+        }
+    }
+
+    static void is(String what, int want, int got) {
+        that(what + " answered " + got + ", due is " + want, got == want);
+    }
+
+    static void is(String what, int want, Call call) {
+        String told = outcome(call);
+        that(what + " gave " + told + ", due is " + want, told.equals("" + want));
+    }
+
+    /** The very class is asked for: a machine's exception is often a subclass of the due one. */
+    static void refuses(String what, Class<? extends RuntimeException> due, Call call) {
+        String told = outcome(call);
+        that(what + " gave " + told + ", due is " + due.getName(), told.equals(due.getName()));
+    }
+
+    /** The answer as a text, or the name of the exception. */
+    static String outcome(Call call) {
+        try {
+            return "" + call.answer();
+        } catch (RuntimeException thrown) {
+            return thrown.getClass().getName();
+        }
+    }
+
+    static void end(String name) {
+        System.out.println(name + ": " + (checks - wrong) + " of " + checks + " checks hold");
+        if (wrong != 0 || checks == 0) {
+            System.exit(1);
+        }
+    }
+}
