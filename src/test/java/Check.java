@@ -39,8 +39,18 @@ final class Check {
         try {
             return "" + call.answer();
         } catch (RuntimeException thrown) {
-            return thrown.getClass().getName();
+            return thrown.getClass().getName() + (isWritten(thrown) ? "" : " of the library");
         }
+    }
+
+    /** A list throws IndexOutOfBoundsException, too, but then its own frame is the topmost one. */
+    private static boolean isWritten(RuntimeException thrown) {
+        StackTraceElement[] trace = thrown.getStackTrace();
+        if (trace.length == 0) {
+            return false;
+        }
+        String thrower = trace[0].getClassName();
+        return thrower.startsWith("InkHall") || thrower.equals("Model");
     }
 
     static void end(String name) {
