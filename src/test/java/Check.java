@@ -7,15 +7,25 @@ final class Check {
 
     private static int checks = 0;
     private static int wrong = 0;
+    private static String about = "";
 
     private Check() {
+    }
+
+    /** What the checks that follow are about. */
+    static void about(String subject) {
+        about = subject;
+    }
+
+    static int count() {
+        return checks;
     }
 
     static void that(String what, boolean holds) {
         checks++;
         if (!holds) {
             wrong++;
-            System.out.println("not as due: " + what);
+            System.out.println("not as due: " + about + what);
         }
     }
 
@@ -26,6 +36,15 @@ final class Check {
     static void is(String what, int want, Call call) {
         String told = outcome(call);
         that(what + " gave " + told + ", due is " + want, told.equals("" + want));
+    }
+
+    static void answers(String what, Call call) {
+        String told = outcome(call);
+        that(what + " gave " + told + ", due is an answer", told.matches("-?\\d+"));
+    }
+
+    static void is(String what, String want, String got) {
+        that(what + " gave " + got + ", due is " + want, got.equals(want));
     }
 
     /** The very class is asked for: a machine's exception is often a subclass of the due one. */

@@ -134,7 +134,7 @@ public final class FairTest {
     }
 
     private static void promise19() {
-        InkHall hall = graded(10, 12, 8, 12, 20);
+        InkHall hall = Halls.shown(10, 12, 8, 12, 20);
         places("by grades", hall, 4, 2, 5, 3, 1);
         hall.vote(1, 2, 5);
         hall.vote(2, 2, 2);
@@ -165,7 +165,7 @@ public final class FairTest {
     private static void promise19Equal() {
         int[] same = new int[40];
         Arrays.fill(same, 7);
-        InkHall hall = graded(same);
+        InkHall hall = Halls.shown(same);
         for (int script = 0; script < 40; script++) {
             Check.is("of as much worth, by number", script + 1, hall.place(script));
             Check.is("of as much worth, at", script, hall.at(script + 1));
@@ -187,7 +187,7 @@ public final class FairTest {
     }
 
     private static void promise20() {
-        InkHall hall = graded(3, 1, 2);
+        InkHall hall = Halls.shown(3, 1, 2);
         int[] due = {0, 2, 1};
         for (int place = 1; place <= 3; place++) {
             Check.is("at " + place, due[place - 1], hall.at(place));
@@ -205,17 +205,6 @@ public final class FairTest {
             Refusal.is("at " + place, Refusal.BOUNDS, h -> h.at(place));
             Check.refuses("at " + place + " of a new one", Refusal.BOUNDS, () -> new InkHall().at(place));
         }
-    }
-
-    /** Scripts without slips and with those grades, all of them shown. */
-    private static InkHall graded(int... grades) {
-        InkHall hall = Halls.withScripts(grades.length);
-        for (int script = 0; script < grades.length; script++) {
-            hall.mark(0, script, grades[script]);
-            hall.mark(1, script, grades[script]);
-            hall.show(script);
-        }
-        return hall;
     }
 
     private static void places(String what, InkHall hall, int... due) {

@@ -84,15 +84,15 @@ public final class GradesTest {
     }
 
     private static void promise14() {
-        Check.is("lacks without marks", 2, marked().lacks(0));
-        Check.is("lacks with one", 1, marked(0).lacks(0));
-        Check.is("lacks with one of 20", 1, marked(20).lacks(0));
-        Check.is("lacks with two near ones", 0, marked(10, 13).lacks(0));
-        Check.is("lacks with two near ones", 0, marked(13, 10).lacks(0));
-        Check.is("lacks with two apart", 1, marked(10, 14).lacks(0));
-        Check.is("lacks with two apart", 1, marked(14, 10).lacks(0));
-        Check.is("lacks with three", 0, marked(10, 14, 0).lacks(0));
-        InkHall hall = marked(10, 14, 0);
+        Check.is("lacks without marks", 2, Halls.marked().lacks(0));
+        Check.is("lacks with one", 1, Halls.marked(0).lacks(0));
+        Check.is("lacks with one of 20", 1, Halls.marked(20).lacks(0));
+        Check.is("lacks with two near ones", 0, Halls.marked(10, 13).lacks(0));
+        Check.is("lacks with two near ones", 0, Halls.marked(13, 10).lacks(0));
+        Check.is("lacks with two apart", 1, Halls.marked(10, 14).lacks(0));
+        Check.is("lacks with two apart", 1, Halls.marked(14, 10).lacks(0));
+        Check.is("lacks with three", 0, Halls.marked(10, 14, 0).lacks(0));
+        InkHall hall = Halls.marked(10, 14, 0);
         hall.takeOut(5);
         Check.is("lacks behind one who has not marked", 0, hall.lacks(0));
         hall.takeOut(0);
@@ -134,7 +134,7 @@ public final class GradesTest {
 
     /** The marks that are left stay in their order: a third one that counts may come second. */
     private static void promise15Order() {
-        InkHall hall = marked(5, 15, 9);
+        InkHall hall = Halls.marked(5, 15, 9);
         Check.is("the first of three is out", 1, hall.takeOut(0));
         Check.is("15 and 9 differ", InkHall.NONE, hall.grade(0));
         Check.is("one more is taken", 3, hall.mark(3, 0, 20));
@@ -144,11 +144,11 @@ public final class GradesTest {
         Check.is("the middle of 9, 20 and 0", 9, hall.grade(0));
         Check.is("the third of three is out", 1, hall.takeOut(4));
         Check.is("9 and 20 are left", 1, hall.lacks(0));
-        InkHall near = marked(5, 15, 8);
+        InkHall near = Halls.marked(5, 15, 8);
         Check.is("5 and 8 are left, of which 6 is another grade", 1, near.takeOut(1));
         Check.is("the grade of 5 and 8", 6, near.grade(0));
         Check.refuses("no third one is taken", Refusal.STATE, () -> near.mark(4, 0, 1));
-        InkHall two = marked(10, 12);
+        InkHall two = Halls.marked(10, 12);
         Check.is("the first of two is out", 1, two.takeOut(0));
         Check.is("another one comes behind 12", 2, two.mark(4, 0, 16));
         Check.is("12 and 16 differ", 1, two.lacks(0));
@@ -157,7 +157,7 @@ public final class GradesTest {
         // Without 12, 16 and 13 come first: were the order another one, 13 would be the third still.
         Check.is("13 and 16 are left", 1, two.takeOut(1));
         Check.is("their grade", 14, two.grade(0));
-        InkHall same = marked(10, 14, 12);
+        InkHall same = Halls.marked(10, 14, 12);
         same.takeOut(2);
         Check.is("the grade is gone with the third", InkHall.NONE, same.grade(0));
     }
@@ -165,7 +165,7 @@ public final class GradesTest {
     private static void promise15Wrong() {
         Refusal.beside("takeOut of an examiner", 6, examiner -> h -> h.takeOut(examiner));
         Refusal.is("takeOut once more", Refusal.STATE, h -> h.takeOut(3));
-        InkHall hall = marked(10, 10);
+        InkHall hall = Halls.marked(10, 10);
         hall.takeOut(4);
         Check.refuses("takeOut twice, without marks", Refusal.STATE, () -> hall.takeOut(4));
         Check.refuses("one who is out marks no more", Refusal.STATE, () -> hall.mark(4, 0, 1));
@@ -179,16 +179,8 @@ public final class GradesTest {
         Check.is("not so another one", 1, early.mark(4, 0, 1));
     }
 
-    private static InkHall marked(int... marks) {
-        InkHall hall = Halls.withScripts(1);
-        for (int i = 0; i < marks.length; i++) {
-            hall.mark(i, 0, marks[i]);
-        }
-        return hall;
-    }
-
     private static void grade(int due, int... marks) {
-        InkHall hall = marked(marks);
+        InkHall hall = Halls.marked(marks);
         Check.is("the grade of " + Arrays.toString(marks), due, hall.grade(0));
     }
 }

@@ -3,6 +3,8 @@ final class Halls {
     /** The strokes of the first letter of the sample: down, along the foot, the head, the middle. */
     static final int[] E = {6, 68, 2, 35};
 
+    private static final int[] TOLD_SCRIPTS = {0, 1, 2, 3, 4, 38, 39, 40};
+
     private Halls() {
     }
 
@@ -74,31 +76,139 @@ final class Halls {
         return hall;
     }
 
-    /**
-     * All that a hall with few scripts answers, calls that change it at the end: two halls that
-     * tell the same are alike in what cannot be asked for, too. The hall is spent by it.
-     */
-    static String told(InkHall hall) {
+    /** Scripts without slips and with those grades, by a pupil of class 0, none of them shown. */
+    static InkHall graded(int... grades) {
+        InkHall hall = withScripts(grades.length);
+        for (int script = 0; script < grades.length; script++) {
+            hall.mark(0, script, grades[script]);
+            hall.mark(1, script, grades[script]);
+        }
+        return hall;
+    }
+
+    /** The same ones, all of them shown. */
+    static InkHall shown(int... grades) {
+        InkHall hall = graded(grades);
+        for (int script = 0; script < grades.length; script++) {
+            hall.show(script);
+        }
+        return hall;
+    }
+
+    /** One script without slips, with those marks by the examiners from 0. */
+    static InkHall marked(int... marks) {
+        InkHall hall = withScripts(1);
+        for (int examiner = 0; examiner < marks.length; examiner++) {
+            hall.mark(examiner, 0, marks[examiner]);
+        }
+        return hall;
+    }
+
+    /** As many letters, of one stroke each: 0 to 1, 0 to 2, and so on, then 8 to 1 and 8 to 2. */
+    static InkHall withLetters(int count) {
+        InkHall hall = new InkHall();
+        for (int letter = 0; letter < count; letter++) {
+            letter(hall, letter < 8 ? letter + 1 : 80 + letter - 7);
+        }
+        return hall;
+    }
+
+    static InkHall withPupils(int count) {
+        InkHall hall = withLetters(1);
+        for (int pupil = 0; pupil < count; pupil++) {
+            hall.pupil(pupil % 4, 16, false);
+        }
+        return hall;
+    }
+
+    /** All letters, pupils and scripts that there can be, some of these shown; 8 strokes on the pen. */
+    static InkHall full() {
+        InkHall hall = withLetters(10);
+        for (int pupil = 0; pupil < 20; pupil++) {
+            hall.pupil(pupil % 4, 16, false);
+        }
+        hall.print(2, false, 50);
+        for (int script = 0; script < 40; script++) {
+            hall.write(script % 20, script % 10);
+        }
+        for (int script : new int[] {0, 1, 38, 39}) {
+            hall.mark(0, script, 20 - script / 2);
+            hall.mark(1, script, 20 - script / 2);
+            hall.show(script);
+        }
+        draw(hall, 1, 10, 23, 43, 43, 65, 78, 2);
+        return hall;
+    }
+
+    /** All that a hall answers of its first things and its last ones; at the end its pen is lifted. */
+    static String asked(InkHall hall) {
         StringBuilder text = new StringBuilder();
-        for (int letter = 0; letter < 4; letter++) {
-            for (int place = 0; place < 7; place++) {
-                final int l = letter;
-                final int p = place;
-                add(text, () -> hall.strokeOf(l, p));
-            }
+        for (int letter : new int[] {0, 1, 2, 3, 8, 9, 10}) {
+            tellLetter(text, hall, letter);
         }
-        for (int band = 0; band < 3; band++) {
-            final int b = band;
-            add(text, () -> hall.sheets(b, false));
-            add(text, () -> hall.sheets(b, true));
-        }
-        for (int script = 0; script < 6; script++) {
+        tellSheets(text, hall);
+        for (int script : TOLD_SCRIPTS) {
             tellScript(text, hall, script);
         }
-        add(text, () -> hall.at(1));
-        add(text, () -> hall.at(2));
-        spend(text, hall);
+        for (int place : new int[] {1, 2, 4, 5}) {
+            add(text, () -> hall.at(place));
+        }
+        add(text, hall::lift);
         return text.toString();
+    }
+
+    /**
+     * What a hall answers to calls that change it: by these, what cannot be asked for is told, too.
+     * Nothing is asked before, for a fault may be that asking changes something.
+     */
+    static String spent(InkHall hall) {
+        StringBuilder text = new StringBuilder();
+        tellPen(text, hall);
+        add(text, () -> hall.pupil(3, 5, true));
+        add(text, () -> letter(hall, 87));
+        for (int script : TOLD_SCRIPTS) {
+            spendScript(text, hall, script);
+        }
+        for (int examiner = 0; examiner < 6; examiner++) {
+            final int each = examiner;
+            add(text, () -> hall.takeOut(each));
+        }
+        for (int pupil = 0; pupil < 3; pupil++) {
+            final int each = pupil;
+            add(text, () -> hall.write(each, 0));
+        }
+        tellSheets(text, hall);
+        return text.toString();
+    }
+
+    /** Marks it, shows it and votes for it, as far as it can be: votes are seen when it is shown. */
+    private static void spendScript(StringBuilder text, InkHall hall, int script) {
+        for (int examiner = 0; examiner < 6; examiner++) {
+            final int each = examiner;
+            add(text, () -> hall.mark(each, script, 3 * each));
+        }
+        add(text, () -> hall.show(script));
+        add(text, () -> hall.worth(script));
+        for (int group = 0; group < 4; group++) {
+            final int each = group;
+            add(text, () -> hall.vote(each, script, 0));
+        }
+        add(text, () -> hall.grade(script));
+    }
+
+    private static void tellLetter(StringBuilder text, InkHall hall, int letter) {
+        for (int place = 0; place < 7; place++) {
+            final int each = place;
+            add(text, () -> hall.strokeOf(letter, each));
+        }
+    }
+
+    private static void tellSheets(StringBuilder text, InkHall hall) {
+        for (int band = 0; band < 3; band++) {
+            final int each = band;
+            add(text, () -> hall.sheets(each, false));
+            add(text, () -> hall.sheets(each, true));
+        }
     }
 
     private static void tellScript(StringBuilder text, InkHall hall, int script) {
@@ -113,29 +223,20 @@ final class Halls {
         add(text, () -> hall.place(script));
     }
 
-    private static void spend(StringBuilder text, InkHall hall) {
+    /** What the pen has: its strokes by a letter or the slips of a script, or at least their number. */
+    private static void tellPen(StringBuilder text, InkHall hall) {
+        String letter = Check.outcome(hall::letter);
+        text.append(letter).append(' ');
+        if (letter.matches("\\d+")) {
+            tellLetter(text, hall, Integer.parseInt(letter));
+            return;
+        }
+        String script = Check.outcome(() -> hall.write(0, 0));
+        text.append(script).append(' ');
+        if (script.matches("\\d+")) {
+            tellScript(text, hall, Integer.parseInt(script));
+        }
         add(text, hall::lift);
-        add(text, () -> hall.pupil(3, 5, true));
-        add(text, () -> letter(hall, 87));
-        for (int script = 0; script < 6; script++) {
-            final int s = script;
-            for (int group = 0; group < 4; group++) {
-                final int g = group;
-                add(text, () -> hall.vote(g, s, 0));
-            }
-            for (int examiner = 0; examiner < 6; examiner++) {
-                final int e = examiner;
-                add(text, () -> hall.mark(e, s, 3 * e));
-            }
-            add(text, () -> hall.show(s));
-            add(text, () -> hall.grade(s));
-        }
-        for (int examiner = 0; examiner < 6; examiner++) {
-            final int e = examiner;
-            add(text, () -> hall.takeOut(e));
-        }
-        add(text, () -> hall.write(0, 0));
-        add(text, () -> hall.write(1, 1));
     }
 
     private static void add(StringBuilder text, Check.Call call) {

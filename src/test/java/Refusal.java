@@ -1,5 +1,6 @@
 import java.util.Arrays;
 import java.util.function.IntFunction;
+import java.util.function.Supplier;
 
 /** Calls that have to throw, and to change nothing. */
 final class Refusal {
@@ -17,11 +18,40 @@ final class Refusal {
     private Refusal() {
     }
 
-    /** The call throws that on a sample, and the sample tells behind it what it tells without. */
+    /** The call throws that on a sample, and the sample answers behind it what it answers without. */
     static void is(String what, Class<? extends RuntimeException> due, CallOn call) {
-        InkHall hall = Halls.sample();
-        Check.refuses(what, due, () -> call.answer(hall));
-        Check.that(what + " changes nothing", Halls.told(hall).equals(Halls.told(Halls.sample())));
+        in(Halls::sample, what, due, call);
+    }
+
+    /** So it is with a hall of another kind, of which two can be made that are alike. */
+    static void in(Supplier<InkHall> made, String what, Class<? extends RuntimeException> due, CallOn call) {
+        InkHall asked = made.get();
+        Check.refuses(what, due, () -> call.answer(asked));
+        Check.is(what + " and what can be asked then", Halls.asked(made.get()), Halls.asked(asked));
+        InkHall spent = made.get();
+        Check.refuses(what, due, () -> call.answer(spent));
+        Check.is(what + " and what calls answer then", Halls.spent(made.get()), Halls.spent(spent));
+    }
+
+    /** At both ends the last number is taken, and the first one that is not in range throws. */
+    static void outside(Supplier<InkHall> made, String what, int low, int high,
+            Class<? extends RuntimeException> due, IntFunction<CallOn> calls) {
+        for (int number : new int[] {low, high}) {
+            Check.answers(what + " " + number, () -> calls.apply(number).answer(made.get()));
+        }
+        for (int number : new int[] {low - 1, high + 1, Integer.MIN_VALUE, Integer.MAX_VALUE}) {
+            in(made, what + " " + number, due, calls.apply(number));
+        }
+    }
+
+    /** The call takes the numbers of all scripts and no other, be there none, one, or as many as can be. */
+    static void noScript(IntFunction<InkHall> withScripts, IntFunction<CallOn> calls) {
+        for (int number : new int[] {-1, 0, 40}) {
+            in(InkHall::new, "without scripts, " + number, BOUNDS, calls.apply(number));
+        }
+        for (int count : new int[] {1, 39, 40}) {
+            outside(() -> withScripts.apply(count), "script", 0, count - 1, BOUNDS, calls);
+        }
     }
 
     /** The call throws IndexOutOfBoundsException for all that is no number of so many things. */
